@@ -3,6 +3,8 @@ import java.util.List;
 import java.util.NoSuchElementException;
 import java.util.Random;
 import java.util.function.IntSupplier;
+import java.util.regex.Matcher;
+import java.util.regex.Pattern;
 
 /** Long runs of chosen and of wild calls: the class answers what the model of the document answers. */
 public final class TwinTest {
@@ -65,9 +67,12 @@ public final class TwinTest {
 
     private void go() {
         if (r.nextInt(10) > 0) {
-            give(makeHouse());
-            same("house()", x::house, m::house);
-            same("fault()", x::fault, m::fault);
+            houses(makeHouse());
+        }
+        // Few runs of wild calls would ever come to the last MINUTE.
+        int hours = r.nextInt(4) == 0 ? 14 + r.nextInt(4) : 0;
+        for (int i = 0; i < hours; i++) {
+            same("minutes(60)", () -> x.minutes(60), () -> m.minutes(60));
         }
         while (used < CALLS && !apart) {
             step();
@@ -117,9 +122,7 @@ public final class TwinTest {
                 break;
             default:
                 if (r.nextInt(3) == 0) {
-                    give(r.nextInt(3) == 0 ? spoil(makeHouse(), 900) : makeHouse());
-                    same("house()", x::house, m::house);
-                    same("fault()", x::fault, m::fault);
+                    houses(r.nextInt(3) == 0 ? spoil(makeHouse(), 900) : makeHouse());
                 } else {
                     ask();
                 }
@@ -365,10 +368,7 @@ public final class TwinTest {
                 break;
             case 1:
                 same("restore(" + k + ")", () -> x.restore(k) ? 1 : 0, () -> m.restore(k) ? 1 : 0);
-                things = new ArrayList<>();
-                faults = new ArrayList<>();
-                m.w.things.forEach(t -> things.add(t.name));
-                m.w.faults.forEach(f -> faults.add(f.name));
+                knowNames();
                 break;
             default: {
                 int n = r.nextInt(5) == 0 ? 10 : 1 + r.nextInt(3);
@@ -377,6 +377,20 @@ public final class TwinTest {
                 }
             }
         }
+    }
+
+    private void houses(String text) {
+        give(text);
+        same("house()", x::house, m::house);
+        same("fault()", x::fault, m::fault);
+        knowNames();
+    }
+
+    private void knowNames() {
+        things = new ArrayList<>();
+        faults = new ArrayList<>();
+        m.w.things.forEach(t -> things.add(t.name));
+        m.w.faults.forEach(f -> faults.add(f.name));
     }
 
     private void give(String text) {
@@ -520,12 +534,30 @@ public final class TwinTest {
         }
     }
 
+    private String anyNumber(String s, String number) {
+        List<int[]> found = new ArrayList<>();
+        Matcher n = Pattern.compile("[0-9]+").matcher(s);
+        while (n.find()) {
+            found.add(new int[] {n.start(), n.end()});
+        }
+        if (found.isEmpty()) {
+            return s;
+        }
+        int[] one = found.get(r.nextInt(found.size()));
+        return s.substring(0, one[0]) + number + s.substring(one[1]);
+    }
+
     private String spoil(String s, int most) {
         StringBuilder b = new StringBuilder(s);
         int n = 1 + r.nextInt(2);
         for (int i = 0; i < n; i++) {
             int at = r.nextInt(b.length() + 1);
-            switch (r.nextInt(6)) {
+            switch (r.nextInt(7)) {
+                case 6: {
+                    String number = String.valueOf(r.nextInt(r.nextBoolean() ? 20 : 1100));
+                    b = new StringBuilder(anyNumber(b.toString(), number));
+                    break;
+                }
                 case 0:
                     b.insert(at, " " + WORDS[r.nextInt(WORDS.length)] + " ");
                     break;
