@@ -12,13 +12,17 @@ public final class ActPromisesTest {
         cable();
         pin();
         draws();
+        otherDraws();
         strike();
         minutes();
         lastMinute();
         undo();
         whatIsUndone();
+        eachActUndone();
         drawn();
+        drawnWithFaults();
         images();
+        newHouse();
         c.close();
     }
 
@@ -91,6 +95,14 @@ public final class ActPromisesTest {
         y.minutes(1);
         things(y, "b up behind what is off: no number", 5, 0, 0, 0, 1);
         c.is("b is up", y.thing(1, 3), 2);
+        OffThenOn v = Check.with(HOUSE);
+        v.off(0);
+        v.minutes(3);
+        v.off(2);
+        v.minutes(1);
+        v.on(2, 0);
+        v.minutes(4);
+        things(v, "c up behind what is up without a number", 5, 0, 0, 0, 1);
         OffThenOn z = Check.with("thing a 2 0;thing b 2 0 behind a;thing c 1 0 behind b;");
         z.off(0);
         z.off(1);
@@ -170,6 +182,31 @@ public final class ActPromisesTest {
             x.on(0, seed);
             int s = seed * 1103515245 + 12345;
             c.is("g alone with seed " + seed, x.now(3), (s >>> 8) % 12 < 6 ? 0 : 2);
+        }
+    }
+
+    /** The CABLE and the PIN draw with the seed that comes with them, a LOG with the one of its LINE. */
+    private static void otherDraws() {
+        String house = "thing a 1 0;fault f a 0 1 1;fault g a 0 1 1;cures f cable 4;cures f pin 8;cures g cable 6;cures g pin 1;";
+        for (int seed = 0; seed < 60; seed++) {
+            int first = seed * 1103515245 + 12345;
+            int second = first * 1103515245 + 12345;
+            int cable = ((first >>> 8) % 12 < 4 ? 0 : 1) + ((second >>> 8) % 12 < 6 ? 0 : 2);
+            int pin = ((first >>> 8) % 12 < 8 ? 0 : 1) + ((second >>> 8) % 12 < 1 ? 0 : 2);
+            OffThenOn x = Check.with(house);
+            x.strike(0);
+            x.strike(1);
+            x.cable(0, seed);
+            c.is("cable with " + seed, x.now(3), cable);
+            x.undo();
+            x.pin(0, seed);
+            c.is("pin with " + seed, x.now(3), pin);
+            x.undo();
+            c.is("log with " + seed, Check.log(x, "a cable " + seed + ";", 1), -1);
+            c.is("lived with " + seed, x.now(3), cable);
+            x.undo();
+            Check.log(x, "a off;a on 5;a pin " + seed + ";", 1);
+            c.is("pin lived with " + seed, x.now(3), pin);
         }
     }
 
@@ -296,6 +333,110 @@ public final class ActPromisesTest {
         c.is("age", x.trouble(0, 5), 0);
     }
 
+    private static int[] all(OffThenOn x) {
+        int[] row = new int[7 + 9 * x.count(0) + 8 * x.count(1)];
+        int n = 0;
+        for (int i = 0; i < 7; i++) {
+            row[n++] = x.now(i);
+        }
+        for (int t = 0; t < x.count(0); t++) {
+            for (int i = 0; i < 9; i++) {
+                row[n++] = x.thing(t, i);
+            }
+        }
+        for (int f = 0; f < x.count(1); f++) {
+            for (int i = 0; i < 8; i++) {
+                row[n++] = x.trouble(f, i);
+            }
+        }
+        return row;
+    }
+
+    /** Each act changes something, and undone leaves all as it was. */
+    private static void eachActUndone() {
+        OffThenOn x = Check.with(HOUSE);
+        x.strike(0);
+        x.minutes(1);
+        x.strike(1);
+        x.strike(2);
+        x.off(3);
+        x.minutes(1);
+        x.off(0);
+        x.minutes(3);
+        for (int act = 0; act < 8; act++) {
+            int[] before = all(x);
+            int r = act == 0 ? x.off(2) : act == 1 ? x.on(0, 2) : act == 2 ? x.cable(1, 2) : act == 3 ? x.pin(1, 2)
+                    : act == 4 ? x.strike(3) : act == 5 ? x.minutes(1) - 1 : act == 6 ? x.drawn(1, 3) - 1
+                    : Check.log(x, "a on 7;minute 3;", 1) + 1;
+            c.is("act " + act, r, 0);
+            c.is("changed " + act, java.util.Arrays.equals(before, all(x)), false);
+            x.undo();
+            c.is("undone " + act, java.util.Arrays.toString(all(x)), java.util.Arrays.toString(before));
+            // Each later act is undone from a state that others led to.
+            x.minutes(1);
+            x.cable(3, act);
+        }
+    }
+
+    /** Counts of an old HOUSE are none of a new one. */
+    private static void newHouse() {
+        OffThenOn x = Check.with(HOUSE);
+        String fresh = java.util.Arrays.toString(all(x));
+        x.strike(0);
+        x.strike(1);
+        x.strike(2);
+        x.minutes(3);
+        x.pin(0, 5);
+        x.off(1);
+        x.off(0);
+        x.minutes(5);
+        x.on(0, 1);
+        x.on(1, 1);
+        Check.house(x, HOUSE);
+        c.is("fresh", java.util.Arrays.toString(all(x)), fresh);
+    }
+
+    /** A draw of 30, of 0 one of the FAULTS, then one of 20, with those of its DEED. */
+    private static void drawnWithFaults() {
+        for (int seed = 1000; seed < 1300; seed++) {
+            OffThenOn x = Check.with("thing a 1 0;fault f a 0 1 1;fault g a 9 1 1;cures g off 5;");
+            x.drawn(60, seed);
+            int[] s = {seed};
+            boolean[] there = new boolean[2];
+            int[] struck = new int[2];
+            int age = 0;
+            int mode = 2;
+            for (int i = 0; i < 60; i++) {
+                if (draw(s, 30) == 0) {
+                    int f = draw(s, 2);
+                    struck[f] += there[f] ? 0 : 1;
+                    age = f == 1 && !there[f] ? 0 : age;
+                    there[f] = true;
+                }
+                int d = draw(s, 20);
+                if (d == 0) {
+                    mode = 0;
+                } else if (d <= 3 && mode == 0) {
+                    mode = 1;
+                    if (there[1] && draw(s, 12) < 5) {
+                        there[1] = false;
+                    }
+                }
+                mode = mode == 1 ? 2 : mode;
+                age++;
+                there[1] = there[1] && age < 9;
+            }
+            c.is("there by " + seed, x.now(3), (there[0] ? 1 : 0) + (there[1] ? 2 : 0));
+            c.is("struck by " + seed, x.trouble(0, 6) * 100 + x.trouble(1, 6), struck[0] * 100 + struck[1]);
+            c.is("mode by " + seed, x.thing(0, 3), mode);
+        }
+    }
+
+    private static int draw(int[] s, int n) {
+        s[0] = s[0] * 1103515245 + 12345;
+        return (s[0] >>> 8) % n;
+    }
+
     private static void drawn() {
         OffThenOn x = Check.with(HOUSE);
         for (int n : new int[] {0, -1, 61, Integer.MAX_VALUE}) {
@@ -306,6 +447,8 @@ public final class ActPromisesTest {
         c.is("minute", x.now(0), 60);
         c.is("undone", x.undo(), 0);
         c.is("minute", x.now(0), 0);
+        c.is("drawn 1", x.drawn(1, 1), 1);
+        c.is("undone", x.undo(), 0);
         drawnByHand();
     }
 

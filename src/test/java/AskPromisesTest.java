@@ -72,6 +72,12 @@ public final class AskPromisesTest {
         c.is("a what() of 0 or NONE leaves it", x.likely(0, 1), 5);
         what(x, 1, 5);
         c.is("one alone", x.likely(1, 0) * 10 + x.likely(1, 1), 11);
+        OffThenOn y = Check.with("thing a 1 0;thing b 1 0;fault f a 0 4 1;fault g b 0 6 1;");
+        what(y, 0, 18);
+        what(y, 0, 1);
+        c.is("fault 0 alone", y.likely(0, 0) * 10 + y.likely(0, 1), 11);
+        Check.house(y, "thing a 1 0;fault f a 0 9 1;fault g a 0 9 1;");
+        c.is("what was told last stays", y.likely(0, 0), 1);
     }
 
     private static void plan(OffThenOn x, int t, int set, int above, int below, int... row) {
@@ -172,6 +178,9 @@ public final class AskPromisesTest {
         c.is("one sort", helped(x, 1, 1, 1, 2), Check.THROWS);
         c.is("other sort", helped(x, 0, 1, 0, 2), Check.THROWS);
         c.is("a third sort", helped(x, 0, 1, 1, 2, 2, 3), Check.THROWS);
+        c.is("a third sort", helped(x, 0, 1, 0, 2, 0, 7, 2, 3), Check.THROWS);
+        c.is("a third sort", helped(x, 0, 1, 0, 2, 1, 7, 255, 3), Check.THROWS);
+        c.is("21 bytes", helped(x, 1, 1, 1, 2, 1, 3, 1, 4, 1, 6, 0, 5, 0, 7, 0, 8, 0, 9, 0, 10, 0), Check.THROWS);
         c.is("odd", helped(x, 0, 1, 1, 2, 1), Check.THROWS);
         c.is("the latest stays", x.lots(), 252);
     }
@@ -186,6 +195,8 @@ public final class AskPromisesTest {
         c.is("alike 5", x.alike(5), -1);
         c.is("kinds", x.kinds(), 4);
         c.is("no kinds", new OffThenOn().kinds(), 0);
+        c.is("one kind", Check.with("thing a 1 0;fault f a 0 4 1;fault g a 1 6 1;fault h a 2 7 1;").kinds(), 1);
+        c.is("two kinds by thing", Check.with("thing a 1 0;thing b 1 0;fault f a 0 4 1;fault g b 1 6 1;").kinds(), 2);
     }
 
     private static void look() {
@@ -235,6 +246,11 @@ public final class AskPromisesTest {
         x.minutes(1);
         c.is("what is there is of no matter", fits(x, 1, 18, 18), 256);
         c.is("age 0 from now on", fits(x, 1, row(7, 3, 1, 18)), 16);
+        x.strike(0);
+        x.strike(4);
+        x.minutes(2);
+        c.is("age 0 from now on, though they are there", fits(x, 1, row(7, 3, 1, 18)), 16);
+        x.minutes(60);
         x.off(0);
         c.is("no number", fits(x, 1, 17, 17), 256);
         c.is("no number behind a fault", fits(x, 1, row(7, 3, 1, 17)), 16);
@@ -374,6 +390,12 @@ public final class AskPromisesTest {
                 x.undo();
             }
             c.is("odds of " + t, x.odds(t, 30, Integer.MAX_VALUE - 10), working);
+        }
+        for (int seed = 0; seed < 20; seed++) {
+            x.drawn(60, seed);
+            int works = x.thing(0, 7);
+            x.undo();
+            c.is("odds of one seed " + seed, x.odds(0, 1, seed), works);
         }
         c.is("all stays", x.now(0), 3);
         c.is("nothing to undo of it", x.undo(), 1);

@@ -298,6 +298,14 @@ public final class TextPromisesTest {
         c.is("minute", x.now(0), 1);
         c.is("wall is off", x.thing(0, 3), 0);
         c.is("right though wrong", x.fault(), 0);
+        c.is("seed 0", Check.log(x, "box cable 0;box off;box off;", 0), 2);
+        c.is("seed 999", Check.log(x, "box cable 999;", 0), -1);
+        c.is("those that work then", Check.log(x, "minute 1;wall on 1;minute 3;box pin 1;minute 4;", 0), -1);
+        c.is("bits", x.logged(3), 3);
+        c.is("minute", x.logged(2), 9);
+        Check.log(x, "minute 1;wall on 1;wall on 1;", 0);
+        c.is("none works", x.logged(3), 0);
+        Check.log(x, "wall on 3;", 0);
         Check.log(x, "wall of;", 0);
         c.is("fault", x.fault(), 1);
         c.is("logged stays", x.logged(0), 12);
@@ -386,6 +394,9 @@ public final class TextPromisesTest {
         said(x, "down>2", 1, 2);
         said(x, "down = 0", 1, 0, 1, 3);
         said(x, "number < 2", 1, 0, 1);
+        said(x, "number > 1", 1, 2, 3);
+        said(x, "number > 0 and number < 003", 2, 1, 2);
+        said(x, "lamp > 0", 1, 0, 1, 2, 3);
         said(x, "boots or has f and works", 3, 2);
         said(x, "(boots or has f) and not works", 5, 1, 2);
         said(x, "not works and up", 3, 1);
