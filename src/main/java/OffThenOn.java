@@ -1384,7 +1384,8 @@ public final class OffThenOn {
                     }
                 }
             }
-            for (int f = 0; f < h.faults; f++) {
+            // Most MINUTES have few FAULTS or none: the row ends behind the last that is there.
+            for (int f = 0; f < h.faults && there >> f != 0; f++) {
                 if (bit(there, f) == 1) {
                     ages[f]++;
                     if (ages[f] == h.healTimes[f]) {

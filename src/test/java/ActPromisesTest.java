@@ -1,3 +1,5 @@
+import java.util.Arrays;
+
 /** Promises 6, 7, 9 to 16, 34, 40 and 41: what acts and MINUTES change, and what is undone or kept. */
 public final class ActPromisesTest {
     private static final String HOUSE = "thing a 2 3;thing b 1 0 behind a;thing c 4 1 behind b;thing d 1 0;"
@@ -329,6 +331,7 @@ public final class ActPromisesTest {
         c.is("healed", x.now(6), 1);
         x.undo();
         c.is("not healed", x.now(6), 0);
+        c.is("f not healed", x.trouble(0, 7), 0);
         c.is("there", x.now(3), 1);
         c.is("age", x.trouble(0, 5), 0);
     }
@@ -369,19 +372,18 @@ public final class ActPromisesTest {
                     : act == 4 ? x.strike(3) : act == 5 ? x.minutes(1) - 1 : act == 6 ? x.drawn(1, 3) - 1
                     : Check.log(x, "a on 7;minute 3;", 1) + 1;
             c.is("act " + act, r, 0);
-            c.is("changed " + act, java.util.Arrays.equals(before, all(x)), false);
+            c.is("changed " + act, Arrays.equals(before, all(x)), false);
             x.undo();
-            c.is("undone " + act, java.util.Arrays.toString(all(x)), java.util.Arrays.toString(before));
-            // Each later act is undone from a state that others led to.
+            c.is("undone " + act, Arrays.toString(all(x)), Arrays.toString(before));
+            // Each later act is undone from a state that another one led to.
             x.minutes(1);
-            x.cable(3, act);
         }
     }
 
     /** Counts of an old HOUSE are none of a new one. */
     private static void newHouse() {
         OffThenOn x = Check.with(HOUSE);
-        String fresh = java.util.Arrays.toString(all(x));
+        String fresh = Arrays.toString(all(x));
         x.strike(0);
         x.strike(1);
         x.strike(2);
@@ -393,7 +395,14 @@ public final class ActPromisesTest {
         x.on(0, 1);
         x.on(1, 1);
         Check.house(x, HOUSE);
-        c.is("fresh", java.util.Arrays.toString(all(x)), fresh);
+        c.is("fresh", Arrays.toString(all(x)), fresh);
+        Check.house(x, "thing p 1 0;thing q 1 0;thing r 1 0;fault s q 1 1 1;");
+        x.off(0);
+        c.is("none is behind p", x.now(1), 6);
+        x.strike(0);
+        c.is("s is of q", x.now(1), 4);
+        c.is("s is not of p", Check.of(() -> x.plan(0, 1, 0)), Check.THROWS);
+        c.is("no cures of s", x.cures(0, 0), 0);
     }
 
     /** A draw of 30, of 0 one of the FAULTS, then one of 20, with those of its DEED. */

@@ -106,6 +106,10 @@ public final class TextPromisesTest {
         c.is("right", x.fault(), 0);
         c.is("no lines again", x.house(), 0);
         c.is("empty house", x.count(0), 0);
+        Check.house(x, "?");
+        c.is("wrong", x.fault(), 1);
+        x.house();
+        c.is("right again", x.fault(), 0);
         OffThenOn y = Check.with(HOUSE);
         y.off(0);
         y.minutes(3);
@@ -198,6 +202,7 @@ public final class TextPromisesTest {
         wrongHouse(line + " ".repeat(879) + "thing b 31 0;", 2, 899);
         wrongHouse(line + " ".repeat(879) + "thing b 30 0;", 1, 900);
         wrongHouse(line + " ".repeat(888) + "?", 1, 900);
+        wrongHouse(line + " ".repeat(882) + "thing a 1 0;", 1, 900);
         wrongLog("minute 1;" + "\n".repeat(392), 1, 400);
         wrongLog("minute 1;" + " ".repeat(383) + "minute 61;", 2, 399);
         wrongLog("minute 1;" + " ".repeat(383) + "minute 60;", 1, 400);
