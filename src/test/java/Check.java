@@ -6,15 +6,21 @@ import java.util.function.IntSupplier;
 final class Check {
     static final int THROWS = Integer.MIN_VALUE;
 
+    private String sentence = "";
     private int wrong;
     private int looked;
+
+    /** What is looked at from here on stands for this sentence of the document. */
+    void says(String words) {
+        sentence = words + " | ";
+    }
 
     void is(String what, Object got, Object due) {
         looked++;
         if (!Objects.equals(got, due)) {
             wrong++;
             if (wrong <= 40) {
-                System.out.println(what + ": " + got + ", due is " + due);
+                System.out.println(sentence + what + ": " + got + ", due is " + due);
             }
         }
     }
