@@ -897,20 +897,23 @@ public final class OffThenOn {
         }
 
         int takeThing(House h) {
-            return takeKnown(isName() ? h.findThing(letters) : NONE);
-        }
-
-        int takeFault(House h) {
-            return takeKnown(isName() ? h.findFault(letters) : NONE);
-        }
-
-        private int takeKnown(int number) {
-            if (number == NONE) {
+            int t = isName() ? h.findThing(letters) : NONE;
+            if (t == NONE) {
                 refuse(BAD_NAME);
             } else {
                 step();
             }
-            return number;
+            return t;
+        }
+
+        int takeFault(House h) {
+            int f = isName() ? h.findFault(letters) : NONE;
+            if (f == NONE) {
+                refuse(BAD_NAME);
+            } else {
+                step();
+            }
+            return f;
         }
     }
 

@@ -22,8 +22,11 @@ public final class ActEdgesTest {
         healEdges();
         undoEdges();
         undoOfNothing();
+        undoBehindRefused();
         drawnEdges();
+        drawnSwitches();
         imageEdges();
+        imageOfSentence();
         c.close();
     }
 
@@ -527,6 +530,75 @@ public final class ActEdgesTest {
         c.is("none", y.undo(), -1);
     }
 
+    private static void undoBehindRefused() {
+        c.says("16: 8 are kept, whatever is refused behind them");
+        for (int more = 0; more < 3; more++) {
+            OffThenOn x = Check.with("thing a 1 5;fault f a 0 1 1;");
+            for (int i = 0; i < 6 + more; i++) {
+                x.minutes(1);
+            }
+            x.strike(0);
+            x.off(0);
+            x.off(0);
+            x.on(0, 1);
+            x.cable(0, 1);
+            x.pin(0, 1);
+            x.strike(0);
+            x.minutes(0);
+            Check.log(x, "a off;", 0);
+            for (int i = 7; i >= 0; i--) {
+                c.is("more", x.undo(), i);
+            }
+            c.is("minute", x.now(0), more);
+            c.is("none", x.undo(), -1);
+        }
+        c.says("16: FAULTS that were gone by DEEDS are counted as they were");
+        OffThenOn y = Check.with(FULL);
+        y.strike(7);
+        y.cable(5, 0);
+        c.is("gone", y.now(5) * 10 + y.now(4), 11);
+        y.undo();
+        c.is("undone", y.now(5) * 10 + y.now(4), 0);
+    }
+
+    private static final int[] SEEDS = new int[20];
+
+    /** For each draw of 20 a seed whose first draw of 30 is not 0, and whose next draw is that one. */
+    private static void findSeeds() {
+        for (int i = 0; i < 5000; i++) {
+            int s = next(i * 7919);
+            if ((s >>> 8) % 30 != 0) {
+                SEEDS[(next(s) >>> 8) % 20] = i * 7919;
+            }
+        }
+    }
+
+    private static void drawnSwitches() {
+        findSeeds();
+        c.says("DRAWN: a draw of 20: 0: it is switched OFF, if it can be");
+        for (int d = 0; d < 20; d++) {
+            OffThenOn x = Check.with("thing a 3 0;fault f a 0 1 1;cures f off 12;");
+            x.strike(0);
+            x.drawn(1, SEEDS[d]);
+            c.is("up, a draw of " + d, x.thing(0, 3) * 10 + x.thing(0, 4), d == 0 ? 1 : 20);
+            c.is("no deed", x.now(4) * 10 + x.now(3), 1);
+        }
+        c.says("DRAWN: a draw of 20: 1, 2, 3: it is switched ON, if it can be (its DEED by the same draws)");
+        for (int d = 0; d < 20; d++) {
+            OffThenOn x = Check.with("thing a 3 0;fault f a 0 1 1;cures f off 12;");
+            x.strike(0);
+            x.off(0);
+            x.drawn(1, SEEDS[d]);
+            boolean on = d >= 1 && d <= 3;
+            c.is("off, a draw of " + d, x.thing(0, 3) * 10 + x.thing(0, 4), on ? 12 : 1);
+            c.is("a deed", x.now(4) * 100 + x.now(5) * 10 + x.now(3), on ? 110 : 1);
+            OffThenOn y = Check.with("thing a 3 1;");
+            y.off(0);
+            y.drawn(1, SEEDS[d]);
+            c.is("too early, a draw of " + d, y.thing(0, 3) * 10 + y.thing(0, 4), 1);
+        }
+    }
+
     private static void drawnEdges() {
         c.says("34: n (1 to 60) MINUTES DRAWN by a seed: how many went by");
         OffThenOn x = Check.with(FULL);
@@ -582,6 +654,33 @@ public final class ActEdgesTest {
             c.is("up with " + seed, x.now(2), (s >>> 8) % 20 == 0 ? 0 : 1);
         }
         c.is("some struck", struck > 0, faults > 0);
+    }
+
+    private static void imageOfSentence() {
+        c.says("40: HOUSE, all that is so and the SENTENCE are kept");
+        OffThenOn x = Check.with("thing a 1 0;thing b 1 0;");
+        x.image(0);
+        Check.sentence(x, "number=1");
+        x.image(1);
+        Check.sentence(x, "up");
+        x.restore(1);
+        c.is("the one that was kept", x.said(-1) * 10 + x.said(0), 11);
+        x.restore(0);
+        c.is("none was", x.said(-1), -1);
+        c.says("41: a HOUSE of another size is as it was kept");
+        OffThenOn y = Check.with(FULL);
+        y.strike(7);
+        y.minutes(3);
+        String full = Seen.all(y);
+        y.image(0);
+        y.house();
+        y.image(1);
+        c.is("none of any", y.count(0) + y.count(1) + y.count(2), 0);
+        y.restore(0);
+        c.is("all", Seen.all(y), full);
+        c.is("six, eight, one", y.count(0) * 100 + y.count(1) * 10 + y.count(2), 681);
+        y.restore(1);
+        c.is("none of any again", y.count(0) + y.count(1) + y.count(2) + y.off(0) + y.strike(0), -2);
     }
 
     private static void imageEdges() {

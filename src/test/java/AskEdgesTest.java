@@ -113,6 +113,10 @@ public final class AskEdgesTest {
         c.is("another of 0, or NONE, is none", x.likely(1, 0), 99);
         what(x, 0, 2);
         c.is("one alone is sure", x.likely(2, 0) * 10 + x.likely(2, 1), 11);
+        OffThenOn first = Check.with("thing a 1 0;fault f a 0 5 1;fault g a 0 7 2;");
+        c.is("the first alone", what(first, 0, 1), 1);
+        c.is("is sure", first.likely(0, 0) * 10 + first.likely(0, 1), 11);
+        c.is("the other is not of these", Check.of(() -> first.likely(1, 0)), Check.THROWS);
         c.says("18: NoSuchElementException: it is not of these");
         Seen.refused(c, "f", y -> y.likely(0, 0), Check.THROWS);
         c.says("18: NoSuchElementException: no such ones");
@@ -348,6 +352,9 @@ public final class AskEdgesTest {
         c.is("none such", x.look(256), -1);
         c.is("stays", x.left(), 1);
         c.is("eight kinds", Check.with(eight(true)).look(255), 0);
+        c.says("LOOK in a HOUSE of 6 THINGS");
+        OffThenOn six = Check.with("thing a 1 0;thing b 1 0;thing c 1 0;thing d 1 0;thing e 1 0;thing i 1 0;fault f i 0 1 3;fault g i 0 1 4;");
+        c.is("the last tells them apart", six.look(3) * 10 + six.left(), 51);
         c.says("LOOK: of like ones the first");
         OffThenOn y = Check.with("thing a 1 0;thing b 1 0;thing d 1 0;fault f b 0 1 3;fault g d 0 1 3;fault h d 0 1 4;");
         c.is("b tells f and g apart as d does", y.look(3) * 10 + y.left(), 11);
@@ -495,6 +502,16 @@ public final class AskEdgesTest {
         c.is("waits", Check.told(y, 1), "abcdefg waits");
         y.off(0);
         c.is("no number", Check.told(y, 1), "abcdefg has no number");
+        c.says("TELL: the FAULT of its FAULTS that are there");
+        OffThenOn z = Check.with("thing a 1 0;thing b 1 0;fault f b 0 1 1;fault g a 0 1 1;fault h a 0 1 2;fault i a 0 1 2;");
+        z.strike(0);
+        c.is("one that shows 1", Check.told(z, 1), "b has f");
+        z.strike(1);
+        c.is("of its own", Check.told(z, 0), "a has g");
+        z.strike(3);
+        c.is("the one that shows more", Check.told(z, 0), "a has i");
+        z.strike(2);
+        c.is("the first of like ones", Check.told(z, 0), "a has h");
         c.says("TELL: ' boots ' and MINUTES as digits");
         y.on(0, 0);
         c.is("30", Check.told(y, 0), "a boots 30");

@@ -3,6 +3,10 @@ import java.nio.file.Files;
 import java.nio.file.Path;
 import java.util.ArrayList;
 import java.util.List;
+import java.util.Map;
+import java.util.Set;
+import java.util.TreeMap;
+import java.util.TreeSet;
 import java.util.regex.Matcher;
 import java.util.regex.Pattern;
 
@@ -26,6 +30,7 @@ public final class LanguageTest {
         c.is("few classes", found(code, "\\b(class|record|enum|interface) \\w+").size() <= 12, true);
         c.is("only one class is public", found(code, "\\bpublic [^;{(]*\\b(class|record|enum|interface) \\w+").size(), 1);
         methods(code);
+        depth(code);
         c.close();
     }
 
@@ -56,5 +61,59 @@ public final class LanguageTest {
             open.add(lines[i]);
         }
         c.is("methods were found", open.size() > 100, true);
+    }
+
+    /** Rule 11: calls that are no recursion go at most eight deep; methods are told apart by their names alone. */
+    private static void depth(String code) {
+        Map<String, Set<String>> calls = new TreeMap<>();
+        Matcher head = Pattern.compile("(?m)^(    |        )(?:(?:public|private|static|final) )*[\\w\\[\\]]+ (\\w+)\\([^)]*\\)[^;{]*\\{$")
+                .matcher(code);
+        while (head.find()) {
+            int end = code.indexOf("\n" + head.group(1) + "}", head.end());
+            Set<String> called = calls.computeIfAbsent(head.group(2), k -> new TreeSet<>());
+            for (String call : found(code.substring(head.end(), end), "\\w+\\(")) {
+                called.add(call.substring(0, call.length() - 1));
+            }
+        }
+        c.is("methods with calls were found", calls.size() > 100, true);
+        for (Set<String> called : calls.values()) {
+            called.retainAll(calls.keySet());
+        }
+        Map<String, Integer> deep = new TreeMap<>();
+        for (String name : calls.keySet()) {
+            c.is("calls of " + name + " are eight deep at most", deepOf(name, calls, deep) <= 8, true);
+        }
+    }
+
+    /** Methods that call one another count as one. */
+    private static int deepOf(String name, Map<String, Set<String>> calls, Map<String, Integer> deep) {
+        if (deep.containsKey(name)) {
+            return deep.get(name);
+        }
+        Set<String> ring = new TreeSet<>(Set.of(name));
+        for (String other : calls.keySet()) {
+            if (reaches(name, other, calls, new TreeSet<>()) && reaches(other, name, calls, new TreeSet<>())) {
+                ring.add(other);
+            }
+        }
+        int most = 0;
+        for (String member : ring) {
+            for (String called : calls.get(member)) {
+                if (!ring.contains(called)) {
+                    most = Math.max(most, deepOf(called, calls, deep));
+                }
+            }
+        }
+        deep.put(name, most + 1);
+        return most + 1;
+    }
+
+    private static boolean reaches(String from, String to, Map<String, Set<String>> calls, Set<String> seen) {
+        for (String called : calls.get(from)) {
+            if (called.equals(to) || seen.add(called) && reaches(called, to, calls, seen)) {
+                return true;
+            }
+        }
+        return false;
     }
 }

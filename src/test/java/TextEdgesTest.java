@@ -12,17 +12,23 @@ public final class TextEdgesTest {
         houseNames();
         houseMost();
         houseEnd();
+        everyTokenOfAHouse();
         houseStays();
+        newHouse();
         kindsOfWrong();
         logNumbers();
         logMost();
         logEnd();
+        everyTokenOfALog();
         logAnswers();
+        logLived();
         logWhys();
         sentenceNumbers();
         sentenceMost();
         sentenceEnd();
+        everyTokenOfASentence();
         saidEdges();
+        saidOfTheLongest();
         c.close();
     }
 
@@ -259,6 +265,15 @@ public final class TextEdgesTest {
         wrongHouse(manyCures(17), 4, manyCures(16).length());
         wrongHouse(manyCures(16) + "cures nobody", 4, manyCures(16).length());
         house(manyCures(16) + "thing b 1 0;", 26);
+        c.says("6 THINGS, 8 FAULTS, 16 'cures' in one HOUSE");
+        String most = manyCures(16) + "thing b 1 0;thing c 1 0;thing d 1 0;thing e 1 0;thing f 1 0;";
+        house(most, 30);
+        wrongHouse(most + "thing", 4, most.length());
+        wrongHouse(most + "fault", 4, most.length());
+        wrongHouse(most + "cures", 4, most.length());
+        wrongHouse(most + "other", 1, most.length());
+        wrongHouse(most + ";", 1, most.length());
+        wrongHouse(most + "?", 1, most.length());
         c.says("THINGS, FAULTS numbered from 0 each");
         OffThenOn x = Check.with(manyFaults(8) + "thing b 2 0;");
         c.is("the first fault is of the first thing", x.trouble(0, 0), 0);
@@ -305,6 +320,214 @@ public final class TextEdgesTest {
         wrongHouse("thing ab 1 0;" + " ".repeat(880) + "thing ab 1 0;", 3, 899);
         wrongHouse("thing a 1 0" + " ".repeat(888) + "; ", 1, 900);
         wrongHouse("thing a 1 0" + " ".repeat(889) + ";", 1, 900);
+    }
+
+    private static final String[] TOKENS = ("thing a 1 0 ; thing b 30 20 behind a ; fault f a 200 99 15 ; cures f off 12 ; "
+            + "cures f pin 1 ; fault g b 0 1 1 ; cures g cable 1 ; thing h 1 0 ;").split(" ");
+
+    private static String join(String[] tokens, int n) {
+        return String.join(" ", java.util.Arrays.copyOf(tokens, n));
+    }
+
+    private static void everyTokenOfAHouse() {
+        int lines = 0;
+        for (int n = 0; n < TOKENS.length; n++) {
+            String ahead = join(TOKENS, n);
+            int place = ahead.length() + (n == 0 ? 0 : 1);
+            boolean whole = n == 0 || TOKENS[n - 1].equals(";");
+            c.says("1 the end, behind each TOKEN of a HOUSE");
+            if (whole) {
+                house(ahead, lines);
+            } else {
+                wrongHouse(ahead, 1, ahead.length());
+            }
+            c.says("1 no TOKEN (at it), in the place of each TOKEN of a HOUSE");
+            wrongHouse(ahead + " ?".substring(n == 0 ? 1 : 0), 1, place);
+            wrongHouse(ahead + " abcdefgh".substring(n == 0 ? 1 : 0), 1, place);
+            wrongHouse(ahead + " 1000".substring(n == 0 ? 1 : 0), 1, place);
+            c.says("1 a LINE that has no ; is not at its end");
+            if (!whole) {
+                boolean end = TOKENS[n].equals(";");
+                wrongHouse(ahead + " thing q 1 0;" + (end ? "" : ";"), 1, place);
+            }
+            lines += TOKENS[n].equals(";") ? 1 : 0;
+        }
+        house(join(TOKENS, TOKENS.length), lines);
+    }
+
+    private static void everyTokenOfALog() {
+        String[] tokens = "a off ; a on 1 ; b cable 0 ; b pin 999 ; strikes f ; minute 60 ;".split(" ");
+        int lines = 0;
+        for (int n = 0; n < tokens.length; n++) {
+            String ahead = join(tokens, n);
+            int place = ahead.length() + (n == 0 ? 0 : 1);
+            boolean whole = n == 0 || tokens[n - 1].equals(";");
+            c.says("1 the end, behind each TOKEN of a LOG");
+            if (whole) {
+                log(ahead);
+            } else {
+                wrongLog(ahead, 1, ahead.length());
+            }
+            c.says("1 no TOKEN (at it), in the place of each TOKEN of a LOG");
+            wrongLog(ahead + " ?".substring(n == 0 ? 1 : 0), 1, place);
+            wrongLog(ahead + " 1a".substring(n == 0 ? 1 : 0), 1, place);
+            if (!whole) {
+                c.says("1 a LINE of a LOG that has no ; is not at its end");
+                wrongLog(ahead + " minute 1;", 1, place);
+            }
+            lines += tokens[n].equals(";") ? 1 : 0;
+        }
+        c.is("lines", lines, 6);
+    }
+
+    private static void everyTokenOfASentence() {
+        String[] tokens = ("( works and not up ) or not ( boots or has f and behind a ) and lamp < 3 or down = 0 and number > 1").split(" ");
+        int ones = 0;
+        for (int n = 0; n < tokens.length; n++) {
+            String ahead = join(tokens, n);
+            int place = ahead.length() + (n == 0 ? 0 : 1);
+            c.says("1 the end, behind each TOKEN of a SENTENCE");
+            if (isSentence(n)) {
+                sentence(ahead, ones);
+            } else {
+                wrongSentence(ahead, 1, ahead.length());
+            }
+            ones += " ( works not up boots has behind lamp down number ".contains(" " + tokens[n] + " ") ? 1 : 0;
+            c.says("1 no TOKEN (at it), in the place of each TOKEN of a SENTENCE");
+            wrongSentence(ahead + " ?".substring(n == 0 ? 1 : 0), 1, place);
+            wrongSentence(ahead + " ;".substring(n == 0 ? 1 : 0), 1, place);
+        }
+        sentence(join(tokens, tokens.length), 12);
+    }
+
+    /** Behind so many TOKENS of the one above it may end. */
+    private static boolean isSentence(int n) {
+        return n == 6 || n == 17 || n == 21 || n == 25;
+    }
+
+    private static void newHouse() {
+        c.says("A new HOUSE is as that of a new object: nothing is left of the one ahead of it");
+        String other = "thing p 1 0;thing q 1 0;thing r 1 0;fault s q 1 1 1;";
+        OffThenOn x = Seen.lived();
+        x.end(0);
+        x.cable(0, 5);
+        x.strike(1);
+        x.minutes(9);
+        OffThenOn y = Seen.lived();
+        y.end(0);
+        Check.house(x, other);
+        Check.house(y, other);
+        c.is("whatever was done", Seen.all(x), Seen.all(y));
+        OffThenOn z = Check.with(other);
+        String told = "(fault|likely|planAt|lots|left|byteAt|logged)[-0-9 ]*";
+        c.is("as of a new object", Seen.all(x).replaceAll(told, ""), Seen.all(z).replaceAll(told, ""));
+        c.is("no cures", x.count(2), 0);
+        x.off(0);
+        c.is("none is behind p", x.now(1), 6);
+        x.strike(0);
+        c.is("s is of q alone", x.now(1), 4);
+        c.is("s is not of p", Check.of(() -> x.plan(0, 1, 0)), Check.THROWS);
+        OffThenOn v = Check.with("thing a 1 0;fault f a 0 1 1;cures f cable 12;");
+        v.strike(0);
+        v.cable(0, 0);
+        c.is("gone by a deed", v.now(5), 1);
+        Check.house(v, other);
+        c.is("none is gone by a deed", v.now(5), 0);
+        OffThenOn w = Check.with(manyCures(16));
+        c.is("16 again", Check.house(w, manyCures(16)), 25);
+        c.is("16", w.count(2), 16);
+        c.is("an empty one", w.house(), 0);
+        c.is("none of any", w.count(0) + w.count(1) + w.count(2) + w.now(1) + w.now(2), 0);
+    }
+
+    private static void logLived() {
+        c.says("36: lived: each LINE is done as the call is");
+        OffThenOn x = Check.with(Seen.HOUSE);
+        OffThenOn y = Check.with(Seen.HOUSE);
+        c.is("lived", Check.log(x, "strikes f;strikes g;a off;minute 3;a on 999;b cable 0;minute 60;a cable 4;b off;b on 0;a pin 7;", 1), -1);
+        y.strike(0);
+        y.strike(1);
+        y.off(0);
+        y.minutes(3);
+        y.on(0, 999);
+        y.cable(1, 0);
+        y.minutes(60);
+        y.cable(0, 4);
+        y.off(1);
+        y.on(1, 0);
+        y.pin(0, 7);
+        String told = " logged[-0-9 ]*";
+        c.is("alike", Seen.all(x).replaceAll(told, ""), Seen.all(y).replaceAll(told, ""));
+        c.is("lines", x.logged(1), 11);
+        c.is("all of it is undone at once", x.undo() * 10 + x.now(0), 0);
+        c.is("never struck", x.trouble(0, 6) + x.trouble(1, 6) + x.now(5), 0);
+        c.says("LOG: SEED 0 to 999: the seed is that of its LINE");
+        for (int seed : new int[] {0, 1, 500, 998, 999}) {
+            OffThenOn p = Check.with(HALVES);
+            OffThenOn q = Check.with(HALVES);
+            for (int f = 0; f < 8; f++) {
+                p.strike(f);
+                q.strike(f);
+            }
+            Check.log(p, "a cable " + seed + ";", 1);
+            q.cable(0, seed);
+            c.is("left with " + seed, p.now(3), q.now(3));
+            Check.log(p, "a pin " + seed + ";", 1);
+            q.pin(0, seed);
+            c.is("left with " + seed, p.now(3), q.now(3));
+            c.is("with another", p.now(5), q.now(5));
+        }
+    }
+
+    private static final String HALVES = manyFaults(8) + "cures xa cable 6;cures xb cable 6;cures xc cable 6;cures xd cable 6;"
+            + "cures xe cable 6;cures xf pin 6;cures xg pin 6;cures xh pin 6;";
+
+    private static void saidOfTheLongest() {
+        c.says("20 ONES: each of them counts");
+        OffThenOn x = Check.with(FIVE + "thing f 1 0;");
+        said(x, "number=0" + " or number=9".repeat(14) + " or number=5", 16, 0, 5);
+        said(x, "up" + " or up".repeat(18) + " and boots", 20, 0, 1, 2, 3, 4, 5);
+        said(x, "boots" + " or boots".repeat(18) + " or up", 20, 0, 1, 2, 3, 4, 5);
+        said(x, "up" + " and up".repeat(18) + " and boots", 20);
+        said(x, "up" + " and up".repeat(17) + " and number<3", 19, 0, 1, 2);
+        c.says("'and' binds ahead of 'or', 'not' ahead of both");
+        said(x, "number<1 or number>4 and boots", 3, 0);
+        said(x, "boots and number<1 or number>4", 3, 5);
+        said(x, "(number<1 or number>4)and number>1", 4, 5);
+        said(x, "not number<1 and number<2", 3, 1);
+        said(x, "not(number<1 and number<2)", 4, 1, 2, 3, 4, 5);
+        said(x, "number=1 or not number<3 and number<5", 4, 1, 3, 4);
+        c.says("8 within one another: each of them counts");
+        said(x, "not ".repeat(7) + "number<2", 8, 2, 3, 4, 5);
+        said(x, "not ".repeat(6) + "number<2", 7, 0, 1);
+        said(x, "not(not(not(not number<2)))", 8, 0, 1);
+        said(x, "number=0 or(number=1 or(number=2 or(number=3 or(number=4 or(number=5 and up)))))", 12, 0, 1, 2, 3, 4, 5);
+        said(x, "number=0 or(number=1 or(number=2 or(number=3 or(number=4 and(number=5 or boots)))))", 12, 0, 1, 2, 3);
+        c.says("SIGN: < = >, each at its edge");
+        said(x, "number<3", 1, 0, 1, 2);
+        said(x, "number=3", 1, 3);
+        said(x, "number>3", 1, 4, 5);
+        said(x, "lamp<18", 1);
+        said(x, "lamp=18", 1, 0, 1, 2, 3, 4, 5);
+        said(x, "lamp>17", 1, 0, 1, 2, 3, 4, 5);
+        x.off(2);
+        x.minutes(3);
+        said(x, "down<3", 1, 0, 1, 3, 4, 5);
+        said(x, "down=3", 1, 2);
+        said(x, "down>3", 1);
+        said(x, "lamp<1", 1, 2);
+        x.on(2, 0);
+        said(x, "boots", 1, 2);
+        said(x, "lamp=16", 1, 2);
+        said(x, "not up", 2, 2);
+    }
+
+    private static void said(OffThenOn x, String text, int ones, int... things) {
+        c.is(text, Check.sentence(x, text), ones);
+        c.is("how many: " + text, x.said(-1), things.length);
+        for (int k = 0; k <= things.length; k++) {
+            c.is(k + ": " + text, x.said(k), k < things.length ? things[k] : -1);
+        }
     }
 
     private static void houseStays() {
@@ -531,6 +754,10 @@ public final class TextEdgesTest {
         c.is("at the very end", Check.log(x, nearly + "minute 40;minute 1;", 0), 17);
         c.is("the minute then", x.logged(2), 1000);
         c.is("acts are fine at the end", Check.log(x, nearly + "minute 40;a off;strikes f;", 0), -1);
+        c.says("37: 0: it was not WRONG, behind one that was");
+        c.is("wrong", Check.log(x, "a on 1;", 0), 0);
+        c.is("an empty one is not", x.log(0), -1);
+        c.is("why", x.logged(0), 0);
         c.says("37: 1 LINES that are not");
         c.is("of an empty log", x.log(0) + x.logged(1), -1);
         Check.log(x, "minute 1;minute 1;a on 1;minute 1;", 0);
