@@ -1691,7 +1691,7 @@ public final class OffThenOn {
                 case NONE:
                     return readCond(h, within + 1) && reader.takeSign(')');
                 case WORD_NOT:
-                    return readOne(h, within + 1) && draft.addStep(word, 0, 0);
+                    return readNot(h, within);
                 case WORD_HAS:
                     return addNumbered(word, 0, reader.takeFault(h));
                 case WORD_BEHIND:
@@ -1703,6 +1703,10 @@ public final class OffThenOn {
                 default:
                     return draft.addStep(word, 0, 0);
             }
+        }
+
+        private boolean readNot(House h, int within) {
+            return readOne(h, within + 1) && draft.addStep(WORD_NOT, 0, 0);
         }
 
         private boolean isOneHere() {
@@ -1772,13 +1776,17 @@ public final class OffThenOn {
             }
             for (int deed = 0; deed < DEEDS && depth < DEEDS; deed++) {
                 if (bit(used, deed) == 0) {
-                    row[depth] = deed;
-                    weighDeed(h, depth, deed);
-                    tryRows(h, depth + 1, used | 1 << deed, spent + weight * costs[deed]);
+                    tryDeed(h, depth, used, deed, spent + weight * costs[deed]);
                 }
             }
             row[depth] = CALL;
             keepBetter(depth + 1, spent + weight * costs[CALL]);
+        }
+
+        private void tryDeed(House h, int depth, int used, int deed, int spent) {
+            row[depth] = deed;
+            weighDeed(h, depth, deed);
+            tryRows(h, depth + 1, used | 1 << deed, spent);
         }
 
         private int weightBehind(int depth) {

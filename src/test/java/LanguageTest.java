@@ -30,6 +30,7 @@ public final class LanguageTest {
         c.is("few classes", found(code, "\\b(class|record|enum|interface) \\w+").size() <= 12, true);
         c.is("only one class is public", found(code, "\\bpublic [^;{(]*\\b(class|record|enum|interface) \\w+").size(), 1);
         methods(code);
+        recursion(code);
         depth(code);
         c.close();
     }
@@ -61,6 +62,21 @@ public final class LanguageTest {
             open.add(lines[i]);
         }
         c.is("methods were found", open.size() > 100, true);
+    }
+
+    /** Rule 8: a method that calls itself is static; others call one another. */
+    private static void recursion(String code) {
+        Matcher head = Pattern.compile("(?m)^(    |        )((?:(?:public|private|static|final) )*)[\\w\\[\\]]+ (\\w+)\\([^)]*\\)[^;{]*\\{$")
+                .matcher(code);
+        int looked = 0;
+        while (head.find()) {
+            String body = code.substring(head.end(), code.indexOf("\n" + head.group(1) + "}", head.end()));
+            if (!head.group(2).contains("static")) {
+                c.is(head.group(3) + " does not call itself", found(body, "(?<![.\\w])" + head.group(3) + "\\("), List.of());
+                looked++;
+            }
+        }
+        c.is("methods of objects were found", looked > 100, true);
     }
 
     /** Rule 11: calls that are no recursion go at most eight deep; methods are told apart by their names alone. */
